@@ -46,7 +46,7 @@ public final class PromisesTest {
     return x;
   }
 
-  /** 0 -3- 1 -1- 2 -3- 3, and 0 -1- 3: a ring with two least cuts of sum 2 in one way only. */
+  /** A ring with prices 3, 1, 3, 1 from post 0 on: the least cut of the whole, 0 1 | 2 3, has the sum 2. */
   private static NetCuts ring() {
     NetCuts x = net(4);
     x.line(0, 1, 3, true);
